@@ -1247,14 +1247,14 @@ public final class FreightRater {
         }
 
         private int readNumber() {
-            int number = readDigit('0', '9');
-            for (int i = 1; i < MOST_DIGITS; i++) {
-                if (hasFailed || at >= length || !isBetween(text[at], '0', '9')) {
-                    break;
-                }
+            int number = 0;
+            int digits = 0;
+            while (digits < MOST_DIGITS && !hasFailed && at < length && text[at] >= '0' && text[at] <= '9') {
                 number = number * 10 + text[at] - '0';
                 at++;
+                digits++;
             }
+            hasFailed = hasFailed || digits == 0;
             return number;
         }
     }
@@ -1369,7 +1369,10 @@ public final class FreightRater {
             if (scale == null || isRefusedForCharges(tariff, scale) || isRefusedForHandlings()) {
                 return;
             }
-            charge(tariff, scale);
+            chargeBase(scale);
+            addExtras(tariff);
+            stops = tariff.stopCharge * (count - 1);
+            fuel = percentOf(baseCharge + extras + stops, tariff.fuel);
         }
 
         private void gather(State state, int group) {
@@ -1465,7 +1468,7 @@ public final class FreightRater {
             weight = Math.max(real, dimensional);
         }
 
-        private void charge(Version tariff, Scale scale) {
+        private void chargeBase(Scale scale) {
             int cheapest = scale.findCheapest(weight);
             if (cheapest < 0) {
                 return;
@@ -1473,9 +1476,6 @@ public final class FreightRater {
             breakWeight = scale.weights[cheapest];
             paidWeight = Math.max(weight, breakWeight);
             baseCharge = scale.chargeFor(cheapest, weight);
-            addExtras(tariff);
-            stops = tariff.stopCharge * (count - 1);
-            fuel = percentOf(baseCharge + extras + stops, tariff.fuel);
         }
 
         private void addExtras(Version tariff) {
