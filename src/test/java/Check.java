@@ -5,11 +5,29 @@ final class Check {
     }
 
     private final String name;
+    private String sentence = "";
+    private int tests;
     private int made;
     private int wrong;
 
     Check(String name) {
         this.name = name;
+    }
+
+    /** One test: what a sentence of the document asks for; an exception that no answer is due to ends it as wrong. */
+    void test(String says, Runnable answers) {
+        sentence = says + ": ";
+        tests++;
+        int before = made;
+        try {
+            answers.run();
+        } catch (RuntimeException thrown) {
+            wrong("was ended by " + thrown.getClass().getName());
+        }
+        if (made == before) {
+            wrong("asked for no answer");
+        }
+        sentence = "";
     }
 
     /** The call has to return this. */
@@ -26,6 +44,15 @@ final class Check {
             got = "threw " + thrown.getClass().getName();
         }
         wrong(call + " " + got + ", due is " + due);
+    }
+
+    /** What was read has to be this text. */
+    void reads(String what, String due, String got) {
+        if (got.equals(due)) {
+            right();
+        } else {
+            wrong(what + " is '" + got + "', due is '" + due + "'");
+        }
     }
 
     /** The call has to throw just this class, none above or below it. */
@@ -45,7 +72,8 @@ final class Check {
 
     /** Says how the test went, and ends the program with 1 if an answer was not as due. */
     void end() {
-        System.out.println(name + ": " + made + " answers, " + wrong + " not as due");
+        String count = tests == 0 ? "" : tests + " tests, ";
+        System.out.println(name + ": " + count + made + " answers, " + wrong + " not as due");
         if (wrong != 0 || made == 0) {
             System.exit(1);
         }
@@ -58,7 +86,7 @@ final class Check {
     private void wrong(String what) {
         made++;
         wrong++;
-        System.out.println(name + ": " + what);
+        System.out.println(name + ": " + sentence + what);
     }
 
     // ---- what most tests need
@@ -68,6 +96,11 @@ final class Check {
     static final Class<IllegalStateException> STATE = IllegalStateException.class;
     static final Class<java.util.NoSuchElementException> MISSING = java.util.NoSuchElementException.class;
     static final Class<UnsupportedOperationException> UNSUPPORTED = UnsupportedOperationException.class;
+
+    /** The values next to a range, and those that are farthest from it. */
+    static int[] outside(int least, int greatest) {
+        return new int[] {least - 1, greatest + 1, Integer.MIN_VALUE, Integer.MAX_VALUE};
+    }
 
     static void feed(FreightRater rater, String text) {
         for (int i = 0; i < text.length(); i++) {

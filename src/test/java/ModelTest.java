@@ -2,7 +2,7 @@ import java.util.Random;
 
 /** All promises: long runs of calls, each answered by FreightRater and by the Model. */
 public final class ModelTest {
-    private static final int RUNS = 400;
+    private static final int RUNS = 1000;
     private static final int CALLS = 512;
 
     private final Random random;
@@ -35,10 +35,9 @@ public final class ModelTest {
 
     private boolean run() {
         boolean isFine = true;
-        for (int i = 0; i < 3 && isFine; i++) {
+        for (int i = below(3); i >= 0 && isFine; i--) {
             isFine = prepare();
         }
-        calls = 0;
         while (calls < CALLS && isFine) {
             isFine = any();
         }
@@ -46,7 +45,11 @@ public final class ModelTest {
     }
 
     private boolean same(String name, Call real, Call due) {
-        calls += name.startsWith("feed") ? 0 : 1;
+        if (calls == CALLS) {
+            // What later calls answer is free.
+            return true;
+        }
+        calls++;
         String got = outcome(real);
         String wanted = outcome(due);
         story.append(name).append(" -> ").append(got);

@@ -276,8 +276,8 @@ public final class RatingTest {
         CHECK.is("18 its paid weight", 10, () -> equal.rating(1, 5));
     }
 
-    private static void conditions() {
-        // The group: weight 40, 3 pieces, longest side 60, zone 3, handlings 2 and 7.
+    /** Group 3: weight 40, 3 pieces, longest side 60, zone 3, handlings 2 and 7. */
+    private static FreightRater forConditions() {
         FreightRater x = Check.rater("z3:0-9;b3:0*1");
         x.ship(0, 0, 4, 0);
         x.pack(0, 1, 60, 2, 10);
@@ -287,6 +287,11 @@ public final class RatingTest {
         x.ship(0, 0, 0, 0);
         x.pack(2, 200, 200, 200, 999);
         CHECK.is("18 a greater one is rated before", 1600, () -> x.rating(4, 4));
+        return x;
+    }
+
+    private static void conditions() {
+        FreightRater x = forConditions();
         String[] hold = {"h2", "h7", "-h0", "-h1", "-h6", "w<41", "w>39", "w=40", "-w<40", "-w>40", "-w=41", "n<4", "n>2",
             "n=3", "-n<3", "-n>3", "-n=4", "l<61", "l>59", "l=60", "-l<60", "-l>60", "z<4", "z>2", "z=3", "-z<3", "-z>3",
             "z<9999", "w=0040"};
@@ -296,9 +301,10 @@ public final class RatingTest {
             Check.amend(x, 0, "a4:1?" + test);
             CHECK.is("18 holds: " + test, 16, () -> x.rating(3, 7));
         }
+        FreightRater y = forConditions();
         for (String test : fail) {
-            Check.amend(x, 0, "a4:1?" + test);
-            CHECK.is("18 does not hold: " + test, 0, () -> x.rating(3, 7));
+            Check.amend(y, 0, "a4:1?" + test);
+            CHECK.is("18 does not hold: " + test, 0, () -> y.rating(3, 7));
         }
     }
 
