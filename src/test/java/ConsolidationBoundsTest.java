@@ -19,6 +19,7 @@ public final class ConsolidationBoundsTest {
         mergingTiesOfMergedGroups();
         mergingSteps();
         mergedGroup();
+        nothingIsLeft();
         greatTotals();
         CHECK.end();
     }
@@ -446,6 +447,27 @@ public final class ConsolidationBoundsTest {
             FreightRater x = weighing("m1:100;c3", 1, 1, 3, 2);
             merging(x, 14, 200, 2, 10);
             merging(x, 12, 200, 2, 4);
+        });
+    }
+
+    private static void nothingIsLeft() {
+        CHECK.test("22 to 25 nothing of an earlier consolidation is left", () -> {
+            FreightRater x = Check.rater("z1:0-9;z2:10-19;z3:20-29;b1:0*1;b2:0*1;b3:0*1;m1:100;m2:100;m3:100");
+            int[] weights = {1, 1, 1, 3};
+            for (int i = 0; i < 4; i++) {
+                x.pack(x.ship(i < 2 ? 10 + 10 * i : 0, 0, 0, 0), 1, 1, 1, weights[i]);
+            }
+            // The group of 2 and 3 is in the best consolidation now, and refused later.
+            CHECK.is("consolidate(15)", 300, () -> x.consolidate(15));
+            CHECK.is("group(15, 2)", 12, () -> x.group(15, 2));
+            x.route(0, 0, 0);
+            x.route(1, 0, 0);
+            Check.amend(x, 0, "c3");
+            CHECK.is("searched(15)", 200, () -> x.searched(15));
+            best(x, 15, 200, 7, 8);
+            merging(x, 15, 200, 2, 7);
+            merging(x, 8, 100, 1, 8);
+            best(x, 12, 200, 4, 8);
         });
     }
 
